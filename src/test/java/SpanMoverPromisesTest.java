@@ -54,6 +54,7 @@ public final class SpanMoverPromisesTest {
         planFillsTheList();
         begin(16);
         runDoesTheList();
+        runUsesWhatWasPlanned();
         runSeesWhatStandsThen();
         begin(17);
         endedTells();
@@ -862,6 +863,21 @@ public final class SpanMoverPromisesTest {
         for (int i = 0; i < values.length; i++) {
             due("get(0, " + i + ")", x.get(0, i), values[i]);
         }
+    }
+
+    private static void runUsesWhatWasPlanned() {
+        SpanMover x = new SpanMover();
+        x.row(0, 6);
+        x.row(0, 6);
+        x.row(0, 6);
+        setAll(x, 1, 1, 2, 3, 4, 5, 6);
+        due("plan", x.plan(1, 4, 2, 3, 2), 1);
+        due("plan", x.plan(2, 3, 0, 1, 1), 2);
+        dueRow(x, 2, 0, 0, 0, 0, 0, 0);
+        due("run", x.run(), 2);
+        dueRow(x, 2, 0, 0, 0, 5, 6, 0);
+        dueRow(x, 0, 0, 5, 0, 0, 0, 0);
+        dueRow(x, 1, 1, 2, 3, 4, 5, 6);
     }
 
     private static void runSeesWhatStandsThen() {

@@ -4,7 +4,7 @@ import java.util.List;
 /**
  * Runs of calls on a SpanMover and on a second shelf that is held quite otherwise: in Java's own
  * arrays of each kind, where System.arraycopy itself tells what can't be moved. Every answer of
- * the one must be the other's. The runs are the same each time.
+ * the one must be the other's. Two such runs go on in turn. The runs are the same each time.
  */
 public final class SpanMoverModelTest {
     private static final int RUNS = 3000;
@@ -15,13 +15,25 @@ public final class SpanMoverModelTest {
     private static int wrong = 0;
 
     public static void main(String[] args) {
-        for (int run = 0; run < RUNS && wrong < MOST_TOLD; run++) {
-            new Run(run).all();
+        for (int run = 0; run < RUNS && wrong < MOST_TOLD; run += 2) {
+            inTurn(new Run(run), new Run(run + 1));
         }
         System.out.println(wrong == 0 ? "both shelves answer alike" : wrong + " answers differ");
         if (wrong != 0) {
             System.exit(1);
         }
+    }
+
+    /** Each object takes a step of its run in turn, so nothing of one may be seen in the other. */
+    private static void inTurn(Run one, Run other) {
+        one.begin();
+        other.begin();
+        for (int step = 0; wrong < MOST_TOLD && !(one.isOver() && other.isOver()); step++) {
+            one.step(step);
+            other.step(step);
+        }
+        one.end();
+        other.end();
     }
 
     private static class Mark {
@@ -397,13 +409,23 @@ public final class SpanMoverModelTest {
             return odd(big ? 1500 + pick(502) : pick(9) - (pick(20) == 0 ? 1 : 0));
         }
 
-        void all() {
+        void begin() {
             if (number % 5 == 0) {
                 fillPlaces();
             }
-            for (int step = 0; calls < CALLS_OF_A_RUN && wrong < MOST_TOLD; step++) {
+        }
+
+        boolean isOver() {
+            return calls >= CALLS_OF_A_RUN;
+        }
+
+        void step(int step) {
+            if (!isOver()) {
                 one(step);
             }
+        }
+
+        void end() {
             for (int place = 0; place < 18; place++) {
                 due("digest at the end, " + place, mover.digest(place), Model.digest(model.at(place)));
             }

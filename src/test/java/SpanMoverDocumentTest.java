@@ -49,6 +49,8 @@ public final class SpanMoverDocumentTest {
         objectsInTurn();
         begin("A new row takes from STOCK, a new thing: nothing else needs it");
         callsWithStock0();
+        begin("STOCK: no call but row, mark and seal changes it");
+        stockStays();
         begin("A new row needs an EMPTY place, a new thing, lift: nothing else does");
         callsWithoutEmptyPlace();
         begin("The LIST has at most 64 MOVES: only plan asks for room in it");
@@ -66,10 +68,14 @@ public final class SpanMoverDocumentTest {
         }
         begin("NUMBER k of the row of ints that is ELEMENT i: each of them");
         eachNumberOfAnElement();
+        begin("ints (32 bits): NUMBER k of the row of ints, too");
+        deepTellsAllBits();
         begin("the same row of ints can stand in many places: in all of them");
         oneRowInAllPlaces();
         begin("the same thing stands in both places");
         oneThingInManyPlaces();
+        begin("clear: ELEMENTS of what stood in it stay where they stand");
+        elementsOfAClearedRow();
     }
 
     private static void testLongSpans() {
@@ -340,6 +346,31 @@ public final class SpanMoverDocumentTest {
         due("get", x.get(0, 0), 6);
     }
 
+    private static void stockStays() {
+        for (NamedCall other : callsOf(OTHERS, READS, MOVES, PLAN, RUN)) {
+            SpanMover x = shelf();
+            x.plan(1, 1, 1, 0, 1);
+            int stock = x.count(1);
+            other.call.on(x);
+            due("STOCK after " + other.name, x.count(1), stock);
+            x.run();
+            other.call.on(x);
+            due("STOCK after " + other.name, x.count(1), stock);
+        }
+        for (int kind = 0; kind <= 6; kind++) {
+            for (int n : new int[] {0, 1, LONGEST}) {
+                SpanMover x = new SpanMover();
+                x.row(kind, n);
+                due("clear", x.clear(0), 1);
+                due("STOCK", x.count(1), 60000 - n - 1);
+            }
+        }
+        SpanMover full = withFullList();
+        int stock = full.count(1);
+        due("plan", full.plan(1, 1, 1, 2, 1), -1);
+        due("STOCK after a refused plan", full.count(1), stock);
+    }
+
     private static void callsWithoutEmptyPlace() {
         SpanMover x = shelf();
         for (int place = 10; place < PLACES; place++) {
@@ -355,10 +386,7 @@ public final class SpanMoverDocumentTest {
     }
 
     private static void callsWithFullList() {
-        SpanMover x = shelf();
-        for (int k = 1; k <= 64; k++) {
-            due("plan", x.plan(1, 1, 1, 2, 1), k);
-        }
+        SpanMover x = withFullList();
         dueUsual(x);
         due("lift", x.lift(6, 1), 10);
         due("row", x.row(0, 1), 11);
@@ -473,6 +501,17 @@ public final class SpanMoverDocumentTest {
         }
     }
 
+    private static void deepTellsAllBits() {
+        SpanMover x = shelf();
+        for (int bit = 0; bit < 32; bit++) {
+            for (int number : new int[] {1 << bit, -(1 << bit), (1 << bit) - 1, ~(1 << bit)}) {
+                x.set(0, 2, number);
+                due("deep of " + number, x.deep(4, 1, 2), number);
+                due("get of " + number, x.get(0, 2), number);
+            }
+        }
+    }
+
     private static void oneRowInAllPlaces() {
         SpanMover x = new SpanMover();
         x.row(4, 1);
@@ -511,6 +550,21 @@ public final class SpanMoverDocumentTest {
         }
     }
 
+    private static void elementsOfAClearedRow() {
+        SpanMover x = shelf();
+        x.lift(4, 1);
+        for (int place : new int[] {4, 5, 6, 9}) {
+            due("clear(" + place + ")", x.clear(place), 1);
+            due("kindOf(" + place + ")", x.kindOf(place), -1);
+        }
+        due("the ints", x.get(0, 1), 5);
+        due("the Mark", x.digest(7), 8 * 31 + 70);
+        due("the Seal", x.digest(8), 9 * 31 + 80);
+        due("the ints, lifted", x.get(10, 1), 5);
+        due("same", x.same(0, 10), 1);
+        due("places", x.count(0), 7);
+    }
+
     // Long spans
 
     /** Two rows of one KIND and of LENGTH 2000, in places 0 and 1, and what digest takes of them. */
@@ -527,7 +581,7 @@ public final class SpanMoverDocumentTest {
             x.row(kind, LONGEST);
         }
 
-        /** Up to 90 calls. */
+        /** Up to 102 calls, of the 512. */
         void scatter() {
             for (int k = 0; k < 30; k++) {
                 putAt(k % 2, picks.below(LONGEST), picks.bits());
@@ -705,15 +759,18 @@ public final class SpanMoverDocumentTest {
         new NamedCall("move(9, 0, 6, 0, 3)", x -> x.move(9, 0, 6, 0, 3)),
     };
 
-    /** All that neither reads nor moves, refused or not; none of it changes rows 1 and 2. */
-    private static final NamedCall[] OTHERS = {
+    private static final NamedCall[] MAKERS = {
         new NamedCall("row(0, 1)", x -> x.row(0, 1)),
         new NamedCall("row(6, 0)", x -> x.row(6, 0)),
+        new NamedCall("mark(1)", x -> x.mark(1)),
+        new NamedCall("seal(1)", x -> x.seal(1)),
+    };
+
+    /** All else, refused or not; none of it changes rows 1 and 2. */
+    private static final NamedCall[] OTHERS = {
         new NamedCall("row(7, 1)", x -> x.row(7, 1)),
         new NamedCall("row(0, 2001)", x -> x.row(0, 2001)),
         new NamedCall("row(0, -1)", x -> x.row(0, -1)),
-        new NamedCall("mark(1)", x -> x.mark(1)),
-        new NamedCall("seal(1)", x -> x.seal(1)),
         new NamedCall("kindOf(0)", x -> x.kindOf(0)),
         new NamedCall("kindOf(99)", x -> x.kindOf(99)),
         new NamedCall("length(0)", x -> x.length(0)),
@@ -724,7 +781,9 @@ public final class SpanMoverDocumentTest {
         new NamedCall("set(0, 3, 1)", x -> x.set(0, 3, 1)),
         new NamedCall("set(99, 0, 1)", x -> x.set(99, 0, 1)),
         new NamedCall("setThing(4, 0, 0)", x -> x.setThing(4, 0, 0)),
+        new NamedCall("setThing(4, 1, -1)", x -> x.setThing(4, 1, -1)),
         new NamedCall("setThing(5, 1, -1)", x -> x.setThing(5, 1, -1)),
+        new NamedCall("setThing(6, 1, -1)", x -> x.setThing(6, 1, -1)),
         new NamedCall("setThing(6, 1, 7)", x -> x.setThing(6, 1, 7)),
         new NamedCall("setThing(6, 3, 8)", x -> x.setThing(6, 3, 8)),
         new NamedCall("why()", x -> x.why()),
@@ -751,8 +810,11 @@ public final class SpanMoverDocumentTest {
         new NamedCall("count(5)", x -> x.count(5)),
     };
 
-    private static final NamedCall PLAN = new NamedCall("plan", x -> x.plan(1, 0, 1, 0, 1));
-    private static final NamedCall RUN = new NamedCall("run", x -> x.run());
+    private static final NamedCall[] PLAN = {
+        new NamedCall("plan(1, 0, 1, 0, 1)", x -> x.plan(1, 0, 1, 0, 1)),
+    };
+
+    private static final NamedCall[] RUN = {new NamedCall("run()", x -> x.run())};
 
     private static List<NamedCall> callsOf(NamedCall[]... groups) {
         List<NamedCall> calls = new ArrayList<>();
@@ -763,8 +825,7 @@ public final class SpanMoverDocumentTest {
     }
 
     private static void whyStays() {
-        NamedCall[] list = {PLAN, RUN};
-        for (NamedCall other : callsOf(OTHERS, MOVES, list)) {
+        for (NamedCall other : callsOf(MAKERS, OTHERS, MOVES, PLAN, RUN)) {
             SpanMover x = shelf();
             x.plan(1, 1, 1, 0, 1);
             x.plan(1, 1, 99, 0, 1);
@@ -775,11 +836,25 @@ public final class SpanMoverDocumentTest {
             other.call.on(x);
             due("why after " + other.name, x.why(), 0);
         }
+        SpanMover x = withFullList();
+        x.deep(4, 0, 0);
+        due("plan", x.plan(1, 1, 1, 0, 1), -1);
+        due("why after a refused plan", x.why(), 5);
+        x.run();
+        due("run", x.run(), 0);
+        due("why after a run of none", x.why(), 5);
+    }
+
+    private static SpanMover withFullList() {
+        SpanMover x = shelf();
+        for (int k = 1; k <= 64; k++) {
+            due("plan", x.plan(1, 1, 1, 2, 1), k);
+        }
+        return x;
     }
 
     private static void toldOfMovesStays() {
-        NamedCall[] list = {PLAN};
-        for (NamedCall other : callsOf(OTHERS, READS, list)) {
+        for (NamedCall other : callsOf(MAKERS, OTHERS, READS, PLAN)) {
             SpanMover x = shelf();
             x.move(1, 0, 1, 0, 3);
             x.move(1, 0, 1, 0, 3);
@@ -794,6 +869,10 @@ public final class SpanMoverDocumentTest {
         x.move(9, 0, 6, 0, 3);
         due("run of none", x.run(), 0);
         dueToldOfMoves(x, "a run of none", 1, 5, 0, 1);
+        SpanMover full = withFullList();
+        full.move(9, 0, 6, 0, 3);
+        due("plan", full.plan(1, 1, 1, 0, 1), -1);
+        dueToldOfMoves(full, "a refused plan", 1, 5, 0, 1);
     }
 
     private static void dueToldOfMoves(SpanMover x, String name, int moved, int ended, int done,
@@ -805,7 +884,7 @@ public final class SpanMoverDocumentTest {
     }
 
     private static void listStays() {
-        for (NamedCall other : callsOf(OTHERS, READS, MOVES)) {
+        for (NamedCall other : callsOf(MAKERS, OTHERS, READS, MOVES)) {
             SpanMover x = shelf();
             x.plan(1, 1, 1, 0, 1);
             x.plan(2, 1, 2, 2, 1);

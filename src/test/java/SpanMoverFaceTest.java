@@ -40,6 +40,7 @@ public final class SpanMoverFaceTest {
         methodsAreTheFace();
         constructorIsTheOne();
         fieldsArePrivate();
+        staticFieldsAreConstants(SpanMover.class);
         innerClassesAreStaticAndNotPublic();
         System.out.println(wrong == 0 ? "the face is as due" : wrong + " faults of the face");
         if (wrong != 0) {
@@ -88,10 +89,23 @@ public final class SpanMoverFaceTest {
 
     private static void fieldsArePrivate() {
         for (Field field : SpanMover.class.getDeclaredFields()) {
-            int modifiers = field.getModifiers();
-            due("field " + field.getName() + " is private", Modifier.isPrivate(modifiers));
-            due("static field " + field.getName() + " is final",
-                    !Modifier.isStatic(modifiers) || Modifier.isFinal(modifiers));
+            due("field " + field.getName() + " is private",
+                    Modifier.isPrivate(field.getModifiers()));
+        }
+    }
+
+    /** What two objects could share would be a static array or a static field that changes. */
+    private static void staticFieldsAreConstants(Class<?> owner) {
+        for (Field field : owner.getDeclaredFields()) {
+            if (Modifier.isStatic(field.getModifiers()) && !field.isSynthetic()) {
+                due("static field " + field.getName() + " is a constant",
+                        Modifier.isFinal(field.getModifiers())
+                                && (field.getType().isPrimitive()
+                                        || field.getType() == String.class));
+            }
+        }
+        for (Class<?> inner : owner.getDeclaredClasses()) {
+            staticFieldsAreConstants(inner);
         }
     }
 
